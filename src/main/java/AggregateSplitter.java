@@ -163,31 +163,23 @@ public final class AggregateSplitter {
     }
 
     public int partitionStart(int record, int partition) {
-        if (!hasPartition(record, partition)) {
-            return INVALID_ARGUMENT;
-        }
-        return layoutNow(record).numbered(partition).start;
+        Partition found = partitionNow(record, partition);
+        return found.length == 0 ? INVALID_ARGUMENT : found.start;
     }
 
     public int partitionLength(int record, int partition) {
-        if (!hasPartition(record, partition)) {
-            return INVALID_ARGUMENT;
-        }
-        return layoutNow(record).numbered(partition).length;
+        Partition found = partitionNow(record, partition);
+        return found.length == 0 ? INVALID_ARGUMENT : found.length;
     }
 
     public int isPromotable(int record, int partition) {
-        if (!hasPartition(record, partition)) {
-            return INVALID_ARGUMENT;
-        }
-        return oneIf(layoutNow(record).numbered(partition).promotable);
+        Partition found = partitionNow(record, partition);
+        return found.length == 0 ? INVALID_ARGUMENT : oneIf(found.promotable);
     }
 
     public int isLive(int record, int partition) {
-        if (!hasPartition(record, partition)) {
-            return INVALID_ARGUMENT;
-        }
-        return oneIf(layoutNow(record).numbered(partition).live);
+        Partition found = partitionNow(record, partition);
+        return found.length == 0 ? INVALID_ARGUMENT : oneIf(found.live);
     }
 
     public int paddingBytes(int record) {
@@ -274,8 +266,10 @@ public final class AggregateSplitter {
         return analysis.layoutOf(record);
     }
 
-    private boolean hasPartition(int record, int partition) {
-        return program.hasRecord(record) && partition >= 0 && partition < layoutNow(record).count;
+    /** A partition of the length 0 if there is no such one: a record that is not declared has none. */
+    private Partition partitionNow(int record, int partition) {
+        analysis.refresh(program);
+        return analysis.layoutOf(record).numbered(partition);
     }
 
     private Run runOf(int transformed) {
@@ -822,7 +816,11 @@ public final class AggregateSplitter {
                     load(instruction);
                     break;
                 case COPY:
-                    copy(instruction, position);
+                    if (transformed) {
+                        copyLivePieces(instruction, analysis.pieces[position]);
+                    } else {
+                        copyWhole(instruction);
+                    }
                     break;
                 case ESCAPE:
                     escape(instruction.record);
@@ -871,13 +869,9 @@ public final class AggregateSplitter {
             return transformed && partition.promotable ? 0 : 1;
         }
 
-        private void copy(Instruction copy, int position) {
-            if (transformed) {
-                copyLivePieces(copy, analysis.pieces[position]);
-            } else {
-                moveBytes(copy, 0, copy.length);
-                price += copy.length;
-            }
+        private void copyWhole(Instruction copy) {
+            moveBytes(copy, 0, copy.length);
+            price += copy.length;
         }
 
         private void copyLivePieces(Instruction copy, int[] lengths) {
