@@ -8,6 +8,7 @@ public final class AnalysisTest {
         hardPartitions();
         softPartitions();
         copyInsideOneRecord();
+        afterRemovals();
         pieces();
         promotable();
         live();
@@ -89,6 +90,10 @@ public final class AnalysisTest {
             partitionStart(0,2) = 5; partitionLength(0,2) = 4; partitionStart(0,3) = 9; partitionLength(0,3) = 1
             paddingBytes(0) = 8; paddingBytes(1) = 6
             """);
+        Script.run("promises 16 to 18, ranges of two copies side by side", """
+            declareRecord(8) = 0; declareRecord(8) = 1; appendCopy(1,0,0,0,2) = 0; appendCopy(0,2,1,4,2) = 1; partitionCount(0) = 2
+            appendCopy(0,4,1,6,2) = 2; partitionCount(0) = 3; appendCopy(1,0,0,6,2) = 3; partitionCount(0) = 4; partitionCount(1) = 3
+            """);
         Script.run("promises 16 to 18, an access cuts a copy range in two", """
             declareRecord(8) = 0; declareRecord(8) = 1; appendCopy(1,0,0,0,8) = 0; appendStore(0,3,2,0) = 1
             partitionCount(0) = 3; partitionStart(0,1) = 3; partitionStart(0,2) = 5; partitionLength(0,2) = 3
@@ -110,6 +115,26 @@ public final class AnalysisTest {
             declareRecord(4) = 0; appendStore(0,0,4,0) = 0; appendCopy(0,0,0,2,2) = 1; partitionCount(0) = 1; pieceCount(1) = 1
             isPromotable(0,0) = 0; isLive(0,0) = 0; cost(0) = 3; cost(1) = 0; liveBytes() = 0
             appendLoad(0,0,0,4) = 2; isLive(0,0) = 1; cost(0) = 4; cost(1) = 4; liveBytes() = 4
+            """);
+    }
+
+    /** What an edit takes away must leave nothing behind. */
+    private static void afterRemovals() {
+        Script.run("a copy that is gone", """
+            declareRecord(8) = 0; declareRecord(8) = 1; appendCopy(1,0,0,0,3) = 0; appendCopy(1,4,0,2,4) = 1
+            partitionCount(0) = 3; partitionCount(1) = 2; removeInstruction(0) = 1; pieceLength(0,0) = 4
+            partitionCount(0) = 1; partitionStart(0,0) = 2; partitionLength(0,0) = 4; partitionStart(0,1) = -1; partitionCount(1) = 1
+            paddingBytes(0) = 4; removeInstruction(0) = 0; partitionCount(0) = 0; partitionStart(0,0) = -1; partitionLength(0,0) = -1
+            isPromotable(0,0) = -1; isLive(0,0) = -1; paddingBytes(0) = 8; paddingBytes(1) = 8
+            """);
+        Script.run("live partitions that are gone", """
+            declareRecord(8) = 0; appendLoad(0,0,0,4) = 0; appendLoad(0,0,4,4) = 1; scalarCount() = 2; liveBytes() = 8
+            removeInstruction(1) = 1; scalarCount() = 1; liveBytes() = 4; isLive(0,1) = -1; isPromotable(0,1) = -1; partitionLength(0,1) = -1
+            removeInstruction(0) = 0; scalarCount() = 0; liveBytes() = 0; undo() = 4; undo() = 3; scalarCount() = 2; liveBytes() = 8
+            """);
+        Script.run("pieces that are gone", """
+            declareRecord(8) = 0; declareRecord(8) = 1; appendCopy(1,0,0,0,8) = 0; pieceLength(0,0) = 8
+            appendStore(0,4,2,0) = 1; pieceLength(0,0) = 4; undo() = 3; pieceLength(0,0) = 8; pieceLength(0,1) = -1
             """);
     }
 

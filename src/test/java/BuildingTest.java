@@ -44,6 +44,8 @@ public final class BuildingTest {
                 + "declareRecord(0) = -1; declareRecord(17) = -1; recordCount() = 4;"
                 + "paddingBytes(0) = 1; paddingBytes(1) = 16; paddingBytes(2) = 2; paddingBytes(3) = 15; paddingBytes(4) = -1;"
                 + "undo() = 3; declareRecord(7) = 3; paddingBytes(3) = 7");
+        Script.run("promise 2, a record is there at once", "declareRecord(4) = 0; paddingBytes(0) = 4; declareRecord(5) = 1; paddingBytes(1) = 5;"
+                + "partitionCount(1) = 0; escapes(1) = 0; undo() = 1; paddingBytes(1) = -1; declareRecord(6) = 1; paddingBytes(1) = 6");
     }
 
     private static void accesses() {

@@ -60,6 +60,13 @@ public final class RunsTest {
             appendOutput(1) = 4; outputAt(0,0) = -16776961; outputAt(1,0) = -16776961; appendStore(0,3,1,6) = 5; appendLoad(1,0,0,4) = 6
             appendOutput(1) = 7; outputAt(0,1) = 255; outputAt(1,1) = 255
             """);
+        Script.run("COPY writes its bytes alone", """
+            declareRecord(8) = 0; declareRecord(8) = 1; appendConstant(0,-1) = 0; appendStore(0,0,4,0) = 1; appendStore(0,4,4,0) = 2
+            appendCopy(1,1,0,0,2) = 3; appendLoad(1,1,0,4) = 4; appendOutput(1) = 5; outputAt(0,0) = 16776960; outputAt(1,0) = 16776960
+            appendCopy(0,0,0,6,2) = 6; appendCopy(0,2,1,3,3) = 7; appendLoad(1,0,2,4) = 8; appendOutput(1) = 9
+            outputAt(0,1) = -16777216; outputAt(1,1) = -16777216
+            appendLoad(1,0,0,4) = 10; appendOutput(1) = 11; outputAt(0,2) = 65535; outputAt(1,2) = 65535
+            """);
         Script.run("scalars of one and two bytes have no sign", """
             declareRecord(3) = 0; appendConstant(0,-2) = 0; appendStore(0,0,1,0) = 1; appendStore(0,1,2,0) = 2
             appendLoad(1,0,0,1) = 3; appendLoad(2,0,1,2) = 4; appendOutput(1) = 5; appendOutput(2) = 6; scalarCount() = 2
@@ -118,6 +125,10 @@ public final class RunsTest {
             appendLoad(0,1,4,4) = 2; cost(0) = 10; cost(1) = 0           # scalar to scalar: the upper piece; the lower is dead
             appendLoad(0,1,5,1) = 3; cost(0) = 11; cost(1) = 3           # scalar to record: 1, and two loads
             appendLoad(0,0,6,1) = 4; partitionCount(0) = 4; cost(0) = 12; cost(1) = 5   # three pieces: 2, 1, 1 bytes, each from a scalar
+            """);
+        Script.run("promise 30, a scalar beside a record", """
+            declareRecord(4) = 0; appendStore(0,0,1,0) = 0; appendLoad(0,0,0,1) = 1; appendLoad(0,0,1,2) = 2; appendLoad(0,0,2,1) = 3
+            cost(0) = 4; cost(1) = 2; appendLoad(0,0,3,1) = 4; appendStore(0,3,1,0) = 5; cost(0) = 6; cost(1) = 2
             """);
         Script.run("promise 30, record to record costs its length", """
             declareRecord(8) = 0; declareRecord(8) = 1; appendCopy(1,0,0,0,8) = 0; appendEscape(1) = 1; cost(0) = 16; cost(1) = 16
