@@ -2,7 +2,10 @@ import java.lang.reflect.Method;
 import java.util.ArrayList;
 import java.util.List;
 
-/** Runs texts of calls in the notation of the document's examples: name(1,2) = 3; name() = 4. */
+/**
+ * Runs texts of calls in the notation of the document's examples: name(1,2) = 3; name() = 4. A call without
+ * "= .." is made, but its answer is not looked at; MIN and MAX are the smallest and the greatest int.
+ */
 final class Script {
     private static int wrong = 0;
     private static int calls = 0;
@@ -32,11 +35,21 @@ final class Script {
         List<Integer> arguments = new ArrayList<>();
         for (String argument : step.substring(open + 1, close).split(",")) {
             if (!argument.isBlank()) {
-                arguments.add(Integer.parseInt(argument.trim()));
+                arguments.add(number(argument));
             }
         }
-        int due = Integer.parseInt(step.substring(equals + 1).trim());
-        same(title + ": " + step, call(subject, step.substring(0, open), arguments), due);
+        int got = call(subject, step.substring(0, open), arguments);
+        if (equals >= 0) {
+            same(title + ": " + step, got, number(step.substring(equals + 1)));
+        }
+    }
+
+    private static int number(String text) {
+        return switch (text.trim()) {
+            case "MIN" -> Integer.MIN_VALUE;
+            case "MAX" -> Integer.MAX_VALUE;
+            default -> Integer.parseInt(text.trim());
+        };
     }
 
     static int call(AggregateSplitter subject, String name, List<Integer> arguments) {
@@ -48,6 +61,11 @@ final class Script {
         } catch (ReflectiveOperationException failure) {
             throw new IllegalStateException(name + arguments, failure);
         }
+    }
+
+    /** How many answers have been looked at up to now. */
+    static int answers() {
+        return calls;
     }
 
     static void same(String what, long got, long due) {
