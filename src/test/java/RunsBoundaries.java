@@ -15,7 +15,9 @@ final class RunsBoundaries {
         registers();
         otherRegisters();
         store();
+        loadEverywhere();
         load();
+        constant();
         copy();
         escapeSum();
         escapeByte();
@@ -141,6 +143,28 @@ final class RunsBoundaries {
         return text + outputs(due);
     }
 
+    /** The bytes of the record are 241 to 256, the last as 0; each width is read at each offset from 0 to the last that fits. */
+    private static void loadEverywhere() {
+        Sentence.description("reads width bytes of the record from offset on");
+        StringBuilder stores = new StringBuilder("declareRecord(16) = 0;");
+        for (int offset = 0; offset < 16; offset += 4) {
+            stores.append("appendConstant(0,").append(numberAt(offset, 4)).append("); appendStore(0,").append(offset).append(",4,0);");
+        }
+        for (int width : new int[] {1, 2, 4}) {
+            for (int offset = 0; offset + width <= 16; offset++) {
+                Sentence.also(stores + "appendLoad(1,0," + offset + "," + width + ") = 8; appendOutput(1) = 9;" + outputs(numberAt(offset, width)));
+            }
+        }
+    }
+
+    private static int numberAt(int offset, int width) {
+        int number = 0;
+        for (int step = width - 1; step >= 0; step--) {
+            number = number * 256 + (241 + offset + step) % 256;
+        }
+        return number;
+    }
+
     private static void load() {
         Sentence.description("With width 1 and 2 the number is not negative");
         for (int value : new int[] {0, 1, 127, 128, 254, 255}) {
@@ -156,6 +180,13 @@ final class RunsBoundaries {
                 text.append(storeByte(0, 12 + step, value >>> 8 * step & 255));
             }
             Sentence.also(text + "appendLoad(0,0,12,4) = 8; appendOutput(0) = 9;" + outputs(value));
+        }
+    }
+
+    private static void constant() {
+        Sentence.description("puts the value into the register");
+        for (int value : VALUES) {
+            Sentence.also("appendConstant(0,7) = 0; appendConstant(0," + value + ") = 1; appendOutput(0) = 2; appendOutput(1) = 3;" + outputs(value, 0));
         }
     }
 
