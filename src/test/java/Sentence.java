@@ -2,17 +2,23 @@ import java.io.IOException;
 import java.nio.file.Files;
 import java.nio.file.Path;
 import java.util.ArrayList;
+import java.util.Comparator;
 import java.util.LinkedHashMap;
 import java.util.List;
 import java.util.Map;
+import java.util.Set;
 
 /**
- * Tests that stand under a sentence of the document: each quotes the words that it holds. A quote that
- * is not in its section fails, so does one behind which nothing is asked, and so does a range behind an
- * argument or a case behind "Returns" that no test quotes.
+ * Tests that stand under a sentence of the document: each quotes the words that it holds. A quote that is not in its
+ * section fails, so does one behind which nothing is asked, and so do words of the document that no test quotes.
  */
 final class Sentence {
     private static final Path DOCUMENT = Path.of("../shared/DOC.md");
+    /** FaceTest holds the face and the signatures; what is not promised can't be tested. */
+    private static final Set<String> WITHOUT_QUOTES = Set.of("The public face", "Not promised");
+    /** Words that ask nothing of an object. */
+    private static final String[] FREE = {"what later calls answer is free", "The constants",
+        "The constructor and the methods follow, a promise each: the signature, then what it does"};
     private static final Map<String, List<String>> QUOTES = new LinkedHashMap<>();
     private static String title = "";
     private static int answersBefore = 0;
@@ -80,14 +86,15 @@ final class Sentence {
                 Script.holds(section + " says \"" + words + "\"", text.contains(words));
             }
         }
-        int clauses = 0;
+        int promises = 0;
         for (String section : sections.keySet()) {
-            if (section.startsWith("Promise ")) {
-                Script.holds(section + " has a test", QUOTES.containsKey(section));
-                clauses += clausesAreQuoted(section, sections.get(section));
+            if (!WITHOUT_QUOTES.contains(section)) {
+                String rest = unquoted(section, sections.get(section));
+                Script.holds(section + ", no test quotes: " + rest, rest.isEmpty());
+                promises += section.startsWith("Promise ") ? 1 : 0;
             }
         }
-        Script.holds("clauses seen: " + clauses, clauses > 100);
+        Script.same("promises seen", promises, 30);
     }
 
     private static Map<String, String> sections(String document) {
@@ -101,27 +108,18 @@ final class Sentence {
         return sections;
     }
 
-    /** A line of a list of arguments or a line with "Returns" has a clause up to each semicolon. */
-    private static int clausesAreQuoted(String section, String text) {
-        int clauses = 0;
-        for (String line : text.split("\n")) {
-            if (line.startsWith("- ") || line.startsWith("Returns ")) {
-                for (String clause : line.replaceFirst("^- ", "").split(";")) {
-                    clauses++;
-                    Script.holds(section + ", no test quotes \"" + clause.trim() + "\"", isQuoted(section, plain(clause)));
-                }
-            }
+    /** What is left of the section without its signature, its headings and what tests quote: joining words are nothing. */
+    private static String unquoted(String section, String text) {
+        String rest = plain(text.replaceAll("(?m)^`.*\\)`$", "").replaceAll("(?m)^---- .*$", ""));
+        List<String> known = new ArrayList<>(QUOTES.getOrDefault(section, List.of()));
+        known.addAll(List.of(FREE));
+        // The longest first, since a short quote may be a part of a longer one.
+        known.sort(Comparator.comparing(String::length).reversed());
+        for (String words : known) {
+            rest = rest.replace(words, " ");
         }
-        return clauses;
-    }
-
-    /** Nothing but a joining word may be left of the clause without what is quoted. */
-    private static boolean isQuoted(String section, String clause) {
-        String rest = clause;
-        for (String words : QUOTES.getOrDefault(section, List.of())) {
-            rest = rest.replace(words, "");
-        }
-        return rest.matches("\\W*(or|Returns)?\\W*");
+        rest = rest.replaceAll("(^|\\s)\\d\\.(?=\\s)", " ").replaceAll("\\b(and|or|Returns)\\b", " ");
+        return rest.matches("\\W*") ? "" : plain(rest);
     }
 
     private static String plain(String words) {
