@@ -5,6 +5,7 @@ import java.lang.reflect.Method;
 import java.lang.reflect.Modifier;
 import java.nio.file.Files;
 import java.nio.file.Path;
+import java.util.Arrays;
 import java.util.HashSet;
 import java.util.Set;
 import java.util.TreeSet;
@@ -22,7 +23,7 @@ public final class LanguageTest {
         "liveBytes 0", "trapPosition 0", "outputCount 1", "outputAt 2", "checksum 1", "cost 1"};
     private static final String[] BANNED = {
         "throw", "throws", "try", "catch", "finally", "synchronized", "assert", "import", "package", "volatile",
-        "native", "transient", "hashCode", "toString", "System", "Thread", "Object", "var"};
+        "native", "transient", "hashCode", "toString", "System", "Thread", "Object", "var", "java", "float", "double"};
 
     public static void main(String[] args) throws IOException {
         face();
@@ -66,6 +67,9 @@ public final class LanguageTest {
         for (Class<?> type : own) {
             Script.holds("rule 2: static: " + type, Modifier.isStatic(type.getModifiers()) && !Modifier.isPublic(type.getModifiers()));
             limits(type);
+            for (Method method : type.getDeclaredMethods()) {
+                Script.holds("rule 1: a public name: " + method, Arrays.stream(FACE).noneMatch(line -> line.startsWith(method.getName() + " ")));
+            }
         }
         limits(AggregateSplitter.class);
     }
@@ -90,6 +94,8 @@ public final class LanguageTest {
             Script.holds("not in the source: " + word, !Pattern.compile("\\b" + word + "\\b").matcher(code).find());
         }
         Script.holds("no lambda, method reference or text", !code.contains("->") && !code.contains("::") && !code.contains("\""));
+        Script.holds("rule 4: no name that ends in Exact", !Pattern.compile("Exact\\b").matcher(code).find());
+        Script.holds("rule 5: no static initialiser block", !Pattern.compile("static\\s*\\{").matcher(code).find());
         Script.holds("signs 1 to 127", text.chars().allMatch(sign -> sign > 0 && sign < 128));
         methodsStayShort(code);
     }

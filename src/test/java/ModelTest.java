@@ -1,3 +1,4 @@
+import java.util.ArrayList;
 import java.util.List;
 import java.util.Random;
 
@@ -8,8 +9,13 @@ public final class ModelTest {
     private static final int[] VALUES = {0, 1, -1, 2, 255, 256, 65535, 65536, 305419896, Integer.MAX_VALUE, Integer.MIN_VALUE};
     private static final int[] ODD = {-1, 4, 8, 10, 16, 17, 24, 25, Integer.MAX_VALUE, Integer.MIN_VALUE};
 
+    private record Edit(String name, List<Integer> arguments) {
+    }
+
     private final Random random;
-    private final AggregateSplitter subject = new AggregateSplitter();
+    private final List<Edit> edits = new ArrayList<>();
+    private AggregateSplitter subject = new AggregateSplitter();
+    private int used = 0;
     private final Model model = new Model();
     private final StringBuilder log = new StringBuilder();
     private final int breadth;
@@ -36,9 +42,22 @@ public final class ModelTest {
             if (call % 4 == 3 || call == CALLS - 1) {
                 compareAll();
             }
-            same("recordCount()", subject.recordCount(), model.sizes().size());
-            same("instructionCount()", subject.instructionCount(), model.steps().size());
+            same("recordCount()", subject().recordCount(), model.sizes().size());
+            same("instructionCount()", subject().instructionCount(), model.steps().size());
         }
+    }
+
+    /** The object for one more call: a new one with the same edits, where the promised calls are used up. */
+    private AggregateSplitter subject() {
+        if (used == Script.PROMISED_CALLS) {
+            subject = new AggregateSplitter();
+            for (Edit edit : edits) {
+                Script.call(subject, edit.name(), edit.arguments());
+            }
+            used = edits.size();
+        }
+        used++;
+        return subject;
     }
 
     private void same(String what, int got, int due) {
@@ -111,7 +130,8 @@ public final class ModelTest {
     private void one(String name, int... arguments) {
         List<Integer> list = java.util.Arrays.stream(arguments).boxed().toList();
         log.append(' ').append(name).append(list);
-        int got = Script.call(subject, name, list);
+        int got = Script.call(subject(), name, list);
+        edits.add(new Edit(name, list));
         same("the last", got, onModel(name, arguments));
     }
 
@@ -140,25 +160,25 @@ public final class ModelTest {
             boolean exists = record >= 0 && record < model.sizes().size();
             List<Model.Range> partitions = exists ? analysis.partitions.get(record) : List.of();
             String at = "(" + record + ")";
-            same("escapes" + at, subject.escapes(record), exists ? one(model.escapes(record)) : -1);
-            same("partitionCount" + at, subject.partitionCount(record), exists ? partitions.size() : -1);
-            same("paddingBytes" + at, subject.paddingBytes(record), exists ? analysis.padding(record) : -1);
+            same("escapes" + at, subject().escapes(record), exists ? one(model.escapes(record)) : -1);
+            same("partitionCount" + at, subject().partitionCount(record), exists ? partitions.size() : -1);
+            same("paddingBytes" + at, subject().paddingBytes(record), exists ? analysis.padding(record) : -1);
             for (int number = -1; number <= partitions.size(); number++) {
                 boolean there = number >= 0 && number < partitions.size();
                 Model.Range partition = there ? partitions.get(number) : new Model.Range(0, -1, -1);
                 boolean promotable = analysis.promotable.contains(partition);
                 boolean isLive = analysis.live.contains(partition);
                 String of = "(" + record + "," + number + ")";
-                same("partitionStart" + of, subject.partitionStart(record, number), partition.start());
-                same("partitionLength" + of, subject.partitionLength(record, number), partition.length());
-                same("isPromotable" + of, subject.isPromotable(record, number), there ? one(promotable) : -1);
-                same("isLive" + of, subject.isLive(record, number), there ? one(isLive) : -1);
+                same("partitionStart" + of, subject().partitionStart(record, number), partition.start());
+                same("partitionLength" + of, subject().partitionLength(record, number), partition.length());
+                same("isPromotable" + of, subject().isPromotable(record, number), there ? one(promotable) : -1);
+                same("isLive" + of, subject().isLive(record, number), there ? one(isLive) : -1);
                 scalars += there && promotable && isLive ? 1 : 0;
                 live += there && isLive ? partition.length() : 0;
             }
         }
-        same("scalarCount()", subject.scalarCount(), scalars);
-        same("liveBytes()", subject.liveBytes(), live);
+        same("scalarCount()", subject().scalarCount(), scalars);
+        same("liveBytes()", subject().liveBytes(), live);
         comparePieces();
     }
 
@@ -167,10 +187,10 @@ public final class ModelTest {
             boolean there = number >= 0 && number < model.steps().size()
                     && model.steps().get(number).kind() == Model.Kind.COPY;
             List<Model.Piece> pieces = there ? model.pieces(model.steps().get(number)) : List.of();
-            same("pieceCount(" + number + ")", subject.pieceCount(number), there ? pieces.size() : -1);
+            same("pieceCount(" + number + ")", subject().pieceCount(number), there ? pieces.size() : -1);
             for (int piece = -1; piece <= pieces.size(); piece++) {
                 int due = piece >= 0 && piece < pieces.size() ? pieces.get(piece).to().length() : -1;
-                same("pieceLength(" + number + "," + piece + ")", subject.pieceLength(number, piece), due);
+                same("pieceLength(" + number + "," + piece + ")", subject().pieceLength(number, piece), due);
             }
         }
     }
@@ -178,13 +198,13 @@ public final class ModelTest {
     private void compareRuns(Model.Analysis analysis) {
         for (int form = 0; form <= 1; form++) {
             Model.Outcome outcome = model.run(analysis, form == 1);
-            same("trapPosition()", subject.trapPosition(), outcome.trap);
-            same("outputCount(" + form + ")", subject.outputCount(form), outcome.outputs.size());
-            same("checksum(" + form + ")", subject.checksum(form), outcome.checksum);
-            same("cost(" + form + ")", subject.cost(form), outcome.cost);
+            same("trapPosition()", subject().trapPosition(), outcome.trap);
+            same("outputCount(" + form + ")", subject().outputCount(form), outcome.outputs.size());
+            same("checksum(" + form + ")", subject().checksum(form), outcome.checksum);
+            same("cost(" + form + ")", subject().cost(form), outcome.cost);
             for (int index = -1; index <= outcome.outputs.size(); index++) {
                 boolean there = index >= 0 && index < outcome.outputs.size();
-                same("outputAt(" + form + "," + index + ")", subject.outputAt(form, index), there ? outcome.outputs.get(index) : 0);
+                same("outputAt(" + form + "," + index + ")", subject().outputAt(form, index), there ? outcome.outputs.get(index) : 0);
             }
         }
     }

@@ -7,6 +7,8 @@ import java.util.List;
  * "= .." is made, but its answer is not looked at; MIN and MAX are the smallest and the greatest int.
  */
 final class Script {
+    /** "An object is used for at most 512 calls after it has been made; what later calls answer is free." */
+    static final int PROMISED_CALLS = 512;
     private static int wrong = 0;
     private static int calls = 0;
 
@@ -19,12 +21,17 @@ final class Script {
     }
 
     static void run(String title, AggregateSplitter subject, String text) {
+        int steps = 0;
         for (String line : text.split("\n")) {
             for (String step : line.replaceFirst("#.*", "").split(";")) {
                 if (!step.isBlank()) {
                     check(title, subject, step.trim());
+                    steps++;
                 }
             }
+        }
+        if (steps > PROMISED_CALLS) {
+            holds(title + ": a test of " + steps + " calls asks for more than the document promises", false);
         }
     }
 
